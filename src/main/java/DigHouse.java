@@ -220,7 +220,7 @@ public final class DigHouse {
 
     public int draw(int rounds) throws IllegalArgumentException, IllegalStateException {
         mayTell();
-        return kept(sheet.draw(layers, rounds), TELL_DRAW, rounds, 0, 0, 0, 0);
+        return kept(sheet.drawFrom(layers, rounds), TELL_DRAW, rounds, 0, 0, 0, 0);
     }
 
     public int dated(int context, int date)
@@ -251,7 +251,7 @@ public final class DigHouse {
 
     public int solve() throws IllegalStateException {
         mayTell();
-        return kept(ways.solve(layers, curves), TELL_SOLVE, 0, 0, 0, 0, 0);
+        return kept(ways.solveFrom(layers, curves), TELL_SOLVE, 0, 0, 0, 0, 0);
     }
 
     // Finds, objects, places
@@ -349,14 +349,14 @@ public final class DigHouse {
     public int pack(int object, int box) throws java.util.NoSuchElementException, IllegalStateException {
         mayTell();
         requireElement(places.isObject(object) && places.isObject(box));
-        int answer = owners.stops(object, day()) ? STOPPED_PACK : places.pack(object, box, now);
+        int answer = owners.stops(object, day()) ? STOPPED_PACK : places.packInto(object, box, now);
         return kept(answer, TELL_PACK, object, box, 0, 0, 0);
     }
 
     public boolean lose(int object) throws java.util.NoSuchElementException, IllegalStateException {
         mayTell();
         requireElement(places.isObject(object));
-        return kept(places.lose(object, now), TELL_LOSE, object, 0, 0, 0, 0);
+        return kept(places.loseAt(object, now), TELL_LOSE, object, 0, 0, 0, 0);
     }
 
     public int lend(int contract, int object, int from, int to)
@@ -366,7 +366,7 @@ public final class DigHouse {
         requireElement(places.isObject(object));
         requireArgument(from >= day() && to >= from && to <= LAST_DAY);
         requireState(terms.mayLend());
-        int answer = owners.stops(object, day()) ? STOPPED_LOAN : terms.lend(contract, object, from, to);
+        int answer = owners.stops(object, day()) ? STOPPED_LOAN : terms.lendOut(contract, object, from, to);
         return kept(answer, TELL_LEND, contract, object, from, to, 0);
     }
 
@@ -377,7 +377,7 @@ public final class DigHouse {
         requireIndex(methods.isMethod(method) && Methods.isPerson(person) && Methods.isPerson(second));
         requireState(methods.mayTreat(object));
         int reason = reasonToWait(object);
-        int answer = reason != 0 ? reason : methods.treat(object, method, person, second, now);
+        int answer = reason != 0 ? reason : methods.doStep(object, method, person, second, now);
         return kept(answer, TELL_TREAT, object, method, person, second, 0);
     }
 
@@ -408,7 +408,7 @@ public final class DigHouse {
             throws java.util.NoSuchElementException, IllegalStateException {
         mayTell();
         requireElement(rights.isPerson(person) && places.isObject(object) && Rights.isField(field) && Rights.isPurpose(purpose));
-        int answer = rights.look(person, object, field, purpose, day(), valueOf(object, field));
+        int answer = rights.lookAt(person, object, field, purpose, day(), valueOf(object, field));
         return kept(answer, TELL_LOOK, person, object, field, purpose, 0);
     }
 
@@ -2668,7 +2668,7 @@ public final class DigHouse {
         private final int[] keySum = new int[NODES];
         private final int[] keyCount = new int[NODES];
 
-        int draw(Layers layers, int rounds) {
+        int drawFrom(Layers layers, int rounds) {
             requireArgument(in(rounds, 0, ROUNDS));
             requireState(draws < DRAWS);
             draws++;
@@ -3399,10 +3399,10 @@ public final class DigHouse {
         private final int[] slot = new int[CONTEXTS];
         private int dates;
         private final int[] counts = new int[DATES * YEARS];
-        /** What was told: rows from one date to another one, the later by most years at most; behind them members, to NONE. */
+        /** What was told: rows from one date to another one, in the same year or (0 .. 11) any later one; behind them members, to NONE. */
         private final int[] from = new int[TOLD];
         private final int[] to = new int[TOLD];
-        private final int[] most = new int[TOLD];
+        private final boolean[] same = new boolean[TOLD];
         private int rows;
         private int told;
         /** The years that each date, and behind them each bound, may have in the sum that is made. */
@@ -3456,7 +3456,7 @@ public final class DigHouse {
             return was != on;
         }
 
-        int solve(Layers layers, Curves curves) {
+        int solveFrom(Layers layers, Curves curves) {
             requireState(solves < SOLVES);
             solves++;
             solved = false;
@@ -3517,7 +3517,7 @@ public final class DigHouse {
                 if (stands && !tellRowsTo(layers, standing, c)) {
                     return false;
                 }
-                if (slot[c] != NONE && !stands && !tellRow(slot[standsFor(layers, c)], slot[c], 0)) {
+                if (slot[c] != NONE && !stands && !tellRow(slot[standsFor(layers, c)], slot[c], true)) {
                     return false;
                 }
             }
@@ -3526,7 +3526,7 @@ public final class DigHouse {
 
         private boolean tellRowsTo(Layers layers, int standing, int top) {
             for (int low = 0; low < CONTEXTS; low++) {
-                if (has(standing, low) && isNext(layers, standing, top, low) && !tellRow(slot[low], slot[top], YEARS - 1)) {
+                if (has(standing, low) && isNext(layers, standing, top, low) && !tellRow(slot[low], slot[top], false)) {
                     return false;
                 }
             }
@@ -3549,13 +3549,13 @@ public final class DigHouse {
             return true;
         }
 
-        private boolean tellRow(int a, int b, int mostYears) {
+        private boolean tellRow(int a, int b, boolean inSame) {
             if (has(tree(a), b)) {
                 return false;
             }
             from[told] = a;
             to[told] = b;
-            most[told] = mostYears;
+            same[told] = inSame;
             told++;
             rows++;
             return true;
@@ -3654,17 +3654,20 @@ public final class DigHouse {
             return (joined >> to[row] & 1) == 0 ? to[row] : NONE;
         }
 
+        /** A row holds for the same year or for any later one, so that the years that suit grow by one each time. */
         private void foldLeaf(int row, int leaf) {
             boolean later = leaf == to[row];
             int other = later ? from[row] : to[row];
-            for (int y = 0; y < YEARS; y++) {
-                int first = later ? y : Math.max(0, y - most[row]);
-                int last = later ? Math.min(YEARS - 1, y + most[row]) : y;
-                setGreat(part, 0, 0);
-                for (int x = first; x <= last; x++) {
-                    addGreat(part, 0, sums, (leaf * YEARS + x) * LIMBS, 1);
+            setGreat(part, 0, 0);
+            for (int i = 0; i < YEARS; i++) {
+                int y = later ? YEARS - 1 - i : i;
+                if (same[row]) {
+                    setGreat(part, 0, 0);
                 }
-                multiplyGreats(sums, (other * YEARS + y) * LIMBS, part, 0);
+                addGreat(part, 0, sums, (leaf * YEARS + y) * LIMBS, 1);
+                if (!isNoGreat(sums, (other * YEARS + y) * LIMBS)) {
+                    multiplyGreats(sums, (other * YEARS + y) * LIMBS, part, 0);
+                }
             }
         }
 
@@ -4355,10 +4358,10 @@ public final class DigHouse {
         }
 
         /** Whether a place is another one, or lies in it. */
-        boolean lies(int place, int in) {
+        boolean lies(int place, int within) {
             int here = place;
             for (int step = 0; step < PLACES && here != NONE; step++) {
-                if (here == in) {
+                if (here == within) {
                     return true;
                 }
                 here = outer[here];
@@ -4488,7 +4491,7 @@ public final class DigHouse {
             return 0;
         }
 
-        int pack(int object, int box, int hour) {
+        int packInto(int object, int box, int hour) {
             requireState(rowCounts[object] < ROWS);
             if (!has(boxes, box) || holds(object, box, hour)) {
                 return 1;
@@ -4521,7 +4524,7 @@ public final class DigHouse {
             return true;
         }
 
-        boolean lose(int object, int hour) {
+        boolean loseAt(int object, int hour) {
             requireState(rowCounts[object] < ROWS);
             int at = rowAt(object, present);
             if (at == NONE || rows[at + 1] != IN_PLACE) {
@@ -4963,7 +4966,7 @@ public final class DigHouse {
             return loanCount < LOANS;
         }
 
-        int lend(int contract, int thing, int from, int to) {
+        int lendOut(int contract, int thing, int from, int to) {
             if (clashesWithLoan(NONE, thing, from, to)) {
                 return NONE;
             }
@@ -5351,9 +5354,9 @@ public final class DigHouse {
         }
 
         private void runClimate(int outside, int dampOutside, int visitors) {
-            long in = (long) share * (outside - degrees()) * volume;
-            long dampIn = (long) share * (dampOutside - damp()) * volume;
-            book(AIR, Math.floorDiv(in, 1000), Math.floorDiv(dampIn, 1000));
+            long heatIn = (long) share * (outside - degrees()) * volume;
+            long waterIn = (long) share * (dampOutside - damp()) * volume;
+            book(AIR, Math.floorDiv(heatIn, 1000), Math.floorDiv(waterIn, 1000));
             runWalls(outside);
             runGoods();
             book(VISITORS, 100L * visitors, 50L * visitors);
@@ -5946,7 +5949,7 @@ public final class DigHouse {
             return rowCounts[object] < ROWS;
         }
 
-        int treat(int object, int method, int person, int second, int hour) {
+        int doStep(int object, int method, int person, int second, int hour) {
             int reason = reason(object, method, person, hour);
             if (reason != 0) {
                 return reason;
@@ -6771,7 +6774,7 @@ public final class DigHouse {
         }
 
         /** Looks at a field that has a value; what is got is kept. */
-        int look(int person, int record, int field, int purpose, int day, int value) {
+        int lookAt(int person, int record, int field, int purpose, int day, int value) {
             int answer = gets(person, record, field, purpose, day);
             looked = true;
             got = answer == ABSENT ? 0 : answer == MASKED ? value / MASK * MASK : value;
