@@ -3859,9 +3859,9 @@ public final class DigHouse {
         /** Person, from, to. */
         private int dangerCount;
         private final int[] dangers = new int[DANGERS * 3];
-        /** Thing, person, day, the day when it was settled or NONE. */
+        /** Thing, day, the day when it was settled or NONE; nothing is asked of its person. */
         private int claimCount;
-        private final int[] claims = new int[CLAIMS * 4];
+        private final int[] claims = new int[CLAIMS * 3];
         private final int[] lasting = new int[KINDS];
         private final int[] makers = new int[OBJECTS];
         private final int[] ends = new int[PERSONS];
@@ -4104,27 +4104,26 @@ public final class DigHouse {
             requireElement(isThing(thing) && isOwner(person));
             requireArgument(isDay(day));
             requireState(claimCount < CLAIMS);
-            claims[claimCount * 4] = thing;
-            claims[claimCount * 4 + 1] = person;
-            claims[claimCount * 4 + 2] = day;
-            claims[claimCount * 4 + 3] = NONE;
+            claims[claimCount * 3] = thing;
+            claims[claimCount * 3 + 1] = day;
+            claims[claimCount * 3 + 2] = NONE;
             claimCount++;
             return claimCount - 1;
         }
 
         void settle(int claim, int day) {
             requireElement(in(claim, 0, claimCount - 1));
-            requireArgument(isDay(day) && day >= claims[claim * 4 + 2]);
-            requireState(claims[claim * 4 + 3] == NONE);
-            claims[claim * 4 + 3] = day;
+            requireArgument(isDay(day) && day >= claims[claim * 3 + 1]);
+            requireState(claims[claim * 3 + 2] == NONE);
+            claims[claim * 3 + 2] = day;
         }
 
         boolean stops(int thing, int day) {
             requireElement(isThing(thing));
             requireArgument(isDay(day));
             for (int c = 0; c < claimCount; c++) {
-                int settled = claims[c * 4 + 3];
-                if (claims[c * 4] == thing && claims[c * 4 + 2] <= day && (settled == NONE || day < settled)) {
+                int settled = claims[c * 3 + 2];
+                if (claims[c * 3] == thing && claims[c * 3 + 1] <= day && (settled == NONE || day < settled)) {
                     return true;
                 }
             }

@@ -192,14 +192,20 @@ public final class Promise02Test {
         x.member(0, false);
         Due.is(0, () -> x.solve());
         Due.is(1, () -> x.wayCount(2));
-        x.dated(0, 0);
-        x.curveRow(0, 0, 1);
         DigHouse y = new DigHouse();
         y.context();
         y.curveDate(5, 5);
         y.dated(0, 0);
         Due.is(3, () -> y.solve());
         Due.no(() -> y.wayFits());
+        DigHouse z = dated(3);
+        z.layerRelate(1, 0, 0);
+        z.layerRelate(0, 2, 0);
+        for (int c = 0; c < 3; c++) {
+            z.dated(c, c);
+        }
+        Due.is(0, () -> z.solve());
+        Due.is(2, () -> z.wayCount(1));
     }
 
     private static void solvedTooOften() {

@@ -85,7 +85,7 @@ public final class Promise03Test {
         Due.is(-1, () -> x.workshop(0));
         Due.is(0, () -> x.workshop(-1));
         Due.is(-1, () -> x.workshop(-1));
-        x.lamp(0, 7);
+        x.lamp(0, 1);
         Due.is(5, () -> x.carry(0, 0, 0, 0));
         x.lamp(0, 0);
         Due.is(0, () -> x.carry(0, 0, 0, 0));

@@ -133,6 +133,13 @@ public final class Promise06Test {
         Due.index(() -> x.layerDiffers(0, 8, 0));
         Due.index(() -> x.layerDiffers(-1, 0, 0));
         Due.index(() -> x.layerDiffers(0, 0, -1));
+        DigHouse y = house(1);
+        y.layerVersion();
+        y.context();
+        y.layerRelate(0, 1, 3);
+        y.layerVersion();
+        Due.is(1, () -> y.layerDiffers(0, 1, 0));
+        Due.is(-1, () -> y.layerDiffers(0, 1, 1));
     }
 
     private static void sheets() {

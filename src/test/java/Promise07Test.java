@@ -4,6 +4,7 @@ public final class Promise07Test {
         sheet();
         hidden();
         phases();
+        sixteenRows();
         rows();
         reservoirs();
         editions();
@@ -126,6 +127,21 @@ public final class Promise07Test {
             int context = c;
             Due.is(rows[c], () -> x.sheetAt(context, 0));
         }
+    }
+
+    private static void sixteenRows() {
+        DigHouse x = new DigHouse();
+        for (int c = 0; c < 16; c++) {
+            x.context();
+        }
+        for (int c = 15; c > 0; c--) {
+            x.layerRelate(c, c - 1, 0);
+        }
+        Due.is(0, () -> x.draw(1));
+        Due.is(16, () -> x.sheetCount(3));
+        Due.is(15, () -> x.sheetAt(0, 0));
+        Due.is(16 * 4 + 15 * 6, () -> x.sheetCommand(-1));
+        Due.is(240, () -> x.sheetCommand(63));
     }
 
     private static void rows() {

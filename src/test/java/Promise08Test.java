@@ -97,8 +97,12 @@ public final class Promise08Test {
         x.curveReservoir(100, 0);
         Due.is(8, () -> x.curveJoinRepeats(5, 6));
         Due.is(999, () -> x.curveWeight(8, 0));
-        Due.is(9, () -> x.curveJoinRepeats(3, 3));
-        x.curveDate(0, 1);
+        x.curveReservoir(0, 0);
+        Due.is(9, () -> x.curveJoinRepeats(0, 0));
+        Due.is(999, () -> x.curveWeight(9, 0));
+        x.curveRow(0, 101, 1);
+        Due.is(10, () -> x.curveJoinRepeats(0, 0));
+        Due.is(999 * 25 / 36, () -> x.curveWeight(10, 0));
         x.curveDate(0, 1);
         Due.state(() -> x.curveJoinRepeats(0, 2));
     }

@@ -6,6 +6,7 @@ public final class Promise12Test {
         histories();
         lastPlaces();
         doors();
+        turnedThrough();
         ways();
         plans();
         mostPlans();
@@ -142,6 +143,22 @@ public final class Promise12Test {
         Due.argument(() -> x.placeDoor(0, 1, 0, 1));
         Due.is(40, () -> x.placeCount(2));
         Due.yes(() -> x.placePasses(2, 39));
+    }
+
+    /** A face that is too long goes through turned, if it is slim enough; 20 by 5 goes just through 19 by 16. */
+    private static void turnedThrough() {
+        DigHouse x = house(2, 5, 100, 20, 1, 1, 100, 13, 1, 19, 4, 1000, 1);
+        Due.is(0, () -> x.placeDoor(0, 1, 16, 19));
+        Due.is(1, () -> x.placeDoor(0, 1, 19, 15));
+        Due.is(2, () -> x.placeDoor(0, 1, 7, 12));
+        Due.is(3, () -> x.placeDoor(0, 1, 12, 6));
+        Due.is(4, () -> x.placeDoor(0, 1, 18, 14));
+        boolean[][] due = {{true, false, false, false, false}, {true, true, true, false, true}, {true, true, false, false, true}};
+        for (int o = 0; o < 3; o++) {
+            for (int d = 0; d < 5; d++) {
+                Due.compare(o + " " + d + " " + due[o][d], o + " " + d + " " + x.placePasses(o, d));
+            }
+        }
     }
 
     private static void ways() {

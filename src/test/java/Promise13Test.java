@@ -98,8 +98,10 @@ public final class Promise13Test {
 
     private static void written() {
         DigHouse x = house(0);
-        String[] texts = {"a=000", "(((b<0012)))", "!(!a=1&b=2)|c=3;z=1", "!(a=1|b=2)&!!c=000100", "(a=1&(b=2&c=3))|((d=4))"};
-        String[] due = {"a=0;", "b<12;", "(!(!a=1&b=2)|c=3);z=1;", "(!(a=1|b=2)&!!c=100);", "((a=1&(b=2&c=3))|d=4);"};
+        String[] texts = {"a=000", "(((b<0012)))", "!(!a=1&b=2)|c=3;z=1", "!(a=1|b=2)&!!c=000100", "(a=1&(b=2&c=3))|((d=4))",
+            "(((((a=1&b=2|c=3&d=4)))))"};
+        String[] due = {"a=0;", "b<12;", "(!(!a=1&b=2)|c=3);z=1;", "(!(a=1|b=2)&!!c=100);", "((a=1&(b=2&c=3))|d=4);",
+            "((a=1&b=2)|(c=3&d=4));"};
         for (int i = 0; i < texts.length; i++) {
             int c = i;
             Due.is(i, () -> read(x, texts[c]));
@@ -111,7 +113,7 @@ public final class Promise13Test {
             Due.index(() -> x.termWritten(c, due[c].length()));
             Due.index(() -> x.termWritten(c, -2));
         }
-        Due.index(() -> x.termWritten(5, -1));
+        Due.index(() -> x.termWritten(6, -1));
     }
 
     /** Which terms are open: those where a name is looked at that fails, or has no row yet. */

@@ -8,6 +8,7 @@ public final class Promise14Test {
         goods();
         goodsRows();
         machines();
+        bands();
         Due.end();
     }
 
@@ -46,6 +47,18 @@ public final class Promise14Test {
             Due.is(due[k][0], () -> x.termClash(at, 0));
             Due.is(due[k][1], () -> x.termClash(at, 1));
         }
+        x.termRequest(14, 10, 20);
+        x.termRequest(14, 21, 30);
+        x.termRequest(14, 5, 9);
+        Due.is(-1, () -> x.termClash(4, 0));
+        x.termRequest(14, 20, 21);
+        Due.is(5, () -> x.termClash(4, 0));
+        Due.is(6, () -> x.termClash(5, 0));
+        Due.is(8, () -> x.termClash(5, 1));
+        x.termRequest(14, 0, 5);
+        Due.is(7, () -> x.termClash(6, 0));
+        Due.is(9, () -> x.termClash(6, 1));
+        Due.is(-1, () -> x.termClash(7, 1));
         Due.index(() -> x.termClash(-1, 0));
         Due.index(() -> x.termClash(0, 2));
         Due.index(() -> x.termClash(0, -1));
@@ -246,5 +259,35 @@ public final class Promise14Test {
         Due.is(0, () -> x.roomBook(0, -1, 1));
         x.roomMachine(0, 3, 0, 0, 100000);
         Due.no(() -> x.roomOn(0, 3));
+    }
+
+    /** At the ends of its band a machine stays as it is. */
+    private static void bands() {
+        DigHouse x = room();
+        x.roomSize(0, 100, 0);
+        x.roomMachine(0, 0, 20000, 20000, 100);
+        x.hour(0, 0);
+        Due.no(() -> x.roomOn(0, 0));
+        x.roomMachine(0, 0, 20001, 20001, 100);
+        on(x, 0, true, true, false);
+        x.roomMachine(0, 0, -60000, 60000, 0);
+        x.roomMachine(0, 1, 20002, 20002, 100);
+        on(x, 1, false, false);
+        x.roomMachine(0, 1, 20001, 20001, 100);
+        on(x, 1, true, true, false);
+        x.roomMachine(0, 2, 10001, 10001, 100);
+        on(x, 2, true, true, false);
+        x.roomMachine(0, 2, 0, 60000, 0);
+        x.roomMachine(0, 3, 10001, 10001, 100);
+        on(x, 3, true, true, false);
+        Due.is(10000, () -> x.roomDamp(0));
+        Due.is(20000, () -> x.roomDegrees(0));
+    }
+
+    private static void on(DigHouse x, int kind, boolean... due) {
+        for (boolean on : due) {
+            x.hour(0, 0);
+            Due.compare(String.valueOf(on), String.valueOf(x.roomOn(0, kind)));
+        }
     }
 }

@@ -87,6 +87,9 @@ public final class Promise16Test {
         Due.is(18500, () -> x.roomPlan(0, 24, 10000, 0));
         x.roomMachine(0, 0, -60000, -60000, 100000);
         Due.is(18500, () -> x.roomPlan(0, 3, 10000, 0));
+        x.roomMachine(0, 0, 0, 0, 0);
+        x.roomSize(0, 100, 0);
+        Due.is(18000, () -> x.roomPlan(0, 24, 10000, 0));
         Due.is(20000, () -> x.roomDegrees(0));
         Due.no(() -> x.roomOn(0, 0));
         Due.is(0, () -> x.roomCount(0, 0));

@@ -162,6 +162,8 @@ public final class Promise17Test {
         Due.yes(() -> x.methodApart(0, 1));
         Due.is(0, () -> x.methodPut(0, -1));
         Due.is(0, () -> x.methodPut(1, -1));
+        Due.is(0, () -> x.methodPut(0, 0));
+        Due.is(1, () -> x.methodPut(1, 0));
     }
 
     private static void plan(DigHouse x, int set, int... due) {

@@ -79,10 +79,24 @@ public final class Promise19Test {
         Due.is(1, () -> x.claimQuote(0, 1));
         Due.is(1, () -> x.claimQuote(0, 5));
         Due.is(1, () -> x.claimQuote(0, 4));
+        beyondTheEnd();
         type(x, "c");
         Due.is(0, () -> x.claimQuote(0, 0));
         Due.is(3, () -> x.claimQuote(0, 3));
         Due.is(3, () -> x.claimCount(0));
+    }
+
+    /** A text of sixty signs ends there, whatever the next source's text is. */
+    private static void beyondTheEnd() {
+        DigHouse x = new DigHouse();
+        type(x, "a".repeat(60));
+        x.claimSource(0, 0);
+        type(x, "aaa");
+        x.claimSource(0, 0);
+        type(x, "aaaa");
+        Due.is(0, () -> x.claimQuote(0, 56));
+        Due.is(2, () -> x.claimQuote(0, 59));
+        Due.is(4, () -> x.claimQuote(1, 0));
     }
 
     private static void cite(DigHouse x, int source, int form, String due) {

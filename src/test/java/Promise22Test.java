@@ -86,6 +86,11 @@ public final class Promise22Test {
         Due.is(10, () -> x.ticketTwice(1, 2));
         Due.is(4, () -> x.ticketJoin());
         Due.is(5, () -> x.ticketTwice(1, 1));
+        x.ticketRead(2, 0, 0);
+        x.ticketRead(1, 0, 0);
+        Due.is(5, () -> x.ticketJoin());
+        Due.is(2, () -> x.ticketTwice(0, 1));
+        Due.is(0, () -> x.ticketTwice(0, 2));
     }
 
     private static void leaving() {
