@@ -34,7 +34,10 @@ public final class DigHouse {
 
     /** A find: context, kind, community. */
     private static final int FIND = 3;
-    /** An object: its find, its claim of origin, how much light it may have, how much it had, whether it was in a room, its warmest degrees. */
+    /**
+     * An object: its find, its claim of origin, how much light it may have, how much it had,
+     * whether it was in a room, its warmest degrees there.
+     */
     private static final int THING = 6;
     private static final int FOUND = 0;
     private static final int CLAIM = 1;
@@ -2500,7 +2503,7 @@ public final class DigHouse {
             return false;
         }
 
-        /** Takes off, one layer of tops behind the other, all that is above the context: as many layers as the longest way has. */
+        /** Takes off all that is above the context, one layer of tops behind the other: as many as the longest way has. */
         int longest(int context) {
             requireIndex(isContext(context));
             int left = 0;
@@ -3399,7 +3402,7 @@ public final class DigHouse {
         private final int[] slot = new int[CONTEXTS];
         private int dates;
         private final int[] counts = new int[DATES * YEARS];
-        /** What was told: rows from one date to another one, in the same year or (0 .. 11) any later one; behind them members, to NONE. */
+        /** What was told: rows from one date to another one (in the same year, or 0 .. 11 later), then members, to NONE. */
         private final int[] from = new int[TOLD];
         private final int[] to = new int[TOLD];
         private final boolean[] same = new boolean[TOLD];
@@ -4475,7 +4478,7 @@ public final class DigHouse {
             }
         }
 
-        /** Moves an object; its row is told first and taken back if some load would be passed, so that all is weighed as it would stand. */
+        /** Moves an object; its row is taken back if a load would be passed, since all is weighed as it would stand. */
         int move(int object, int place, int hour, int a, int b) {
             requireState(rowCounts[object] < ROWS && opens(object, a, b));
             if (isBarred(where(object, hour), place, hour)) {
@@ -4721,7 +4724,7 @@ public final class DigHouse {
         private static final int REQUESTS = 30;
         private static final int LAST_HOUR = 2400000;
         private static final int LOAN_NUMBER = 100;
-        /** A loan: thing, contract, from, to, what it answered latest, how many were told, those told and not good since, shielded. */
+        /** A loan: thing, contract, from, to, what it answered latest, how many were told, which of these still, shielded. */
         private static final int LOAN = 8;
         private static final int THING = 0;
         private static final int CONTRACT = 1;
@@ -5771,7 +5774,7 @@ public final class DigHouse {
             return answer;
         }
 
-        /** Goes through the pad, and tells its clauses of the next method if take is so: 0, or -1 less the first wrong place. */
+        /** Goes through the pad, and tells its clauses if take is so: 0, or -1 less the first wrong place. */
         private int readClauses(boolean take) {
             int at = 0;
             for (int count = 1; count <= CLAUSES && pad.length() > 0; count++) {
@@ -6053,7 +6056,7 @@ public final class DigHouse {
             return set;
         }
 
-        /** Puts methods in the first order that may be, the lowest that may come next each time: how many; NONE if there is none. */
+        /** Puts methods in the first order that may be, each time the lowest that may come: how many; NONE without one. */
         private int order(int object, int todo, int done, boolean take) {
             int left = todo;
             int past = done;
