@@ -29,9 +29,40 @@ public final class SheetBruteTest {
     private final List<List<Node>> links = new ArrayList<>();
     private List<List<Node>> rows = new ArrayList<>();
 
+    /** Which context is right above which: with the phases that are told with them the links have 150 bends, and 151. */
+    private static final String[] JUST_BENT = {"..111..1111111.1", "...1.1.111..1111", "....11..1111.111", ".....1...1.1.11.", ".............111",
+        "..............11", ".......11..111.1", ".........1...11.", "...........1.111", "...............1", "...........1.111", "", ".............11."};
+    private static final String[] TOO_BENT = {"..111..1111111.1", "...1.1.111.11111", "....11..111...11", ".....1...1.1.11.", ".............111",
+        "..............11", ".......11..111.1", ".........1...11.", "...........1.111", "...............1", "...........1.111", "", ".............11."};
+
     private SheetBruteTest(int seed) {
         random = new Random(seed);
         count = seed % 4 == 0 ? 16 : 1 + random.nextInt(16);
+    }
+
+    private SheetBruteTest(int seed, int count) {
+        random = new Random(seed);
+        this.count = count;
+    }
+
+    private int runBent(String[] above, int... told) {
+        for (int c = 0; c < count; c++) {
+            house.context();
+            phases[c] = told[c];
+            house.phase(c, told[c]);
+        }
+        for (int a = 0; a < above.length; a++) {
+            for (int b = 0; b < above[a].length(); b++) {
+                if (above[a].charAt(b) == '1') {
+                    house.layerRelate(a, b, 0);
+                }
+            }
+        }
+        takeOrder();
+        int answer = house.draw(12);
+        int kind = compare(12, answer);
+        Due.is(kind == 0 ? 150 : 0, () -> house.sheetCount(4));
+        return kind;
     }
 
     public static void main(String[] args) {
@@ -39,6 +70,8 @@ public final class SheetBruteTest {
         for (int seed = 0; seed < 1500; seed++) {
             seen[new SheetBruteTest(seed).run()]++;
         }
+        Due.is(0, () -> new SheetBruteTest(0, 16).runBent(JUST_BENT, 0, 2, -1, 2, 0, 2, 0, 4, 3, -1, -1, 3, 4, 5, 5, 4));
+        Due.is(2, () -> new SheetBruteTest(0, 16).runBent(TOO_BENT, 0, 2, -1, 2, 0, 2, 2, 4, 3, -1, 1, 3, 4, 5, 5, 4));
         System.out.println("drawn, misfits, too many bends: " + java.util.Arrays.toString(seen));
         Due.compare("true", String.valueOf(seen[0] > 400 && seen[1] > 50));
         Due.end();
@@ -69,6 +102,12 @@ public final class SheetBruteTest {
                 house.layerRelate(a, b, 1);
             }
         }
+        takeOrder();
+        int rounds = random.nextInt(13);
+        return compare(rounds, house.draw(rounds));
+    }
+
+    private void takeOrder() {
         for (int k = 0; k < house.layerLinks(); k++) {
             told[house.layerLink(k, 0)][house.layerLink(k, 1)] = true;
         }
@@ -77,8 +116,6 @@ public final class SheetBruteTest {
                 over[a][b] = house.layerEqual(a) == a && house.layerEqual(b) == b && house.layerOrder(a, b) == 1;
             }
         }
-        int rounds = random.nextInt(13);
-        return compare(rounds, house.draw(rounds));
     }
 
     private int phaseOf(int g) {
