@@ -57,7 +57,7 @@ public final class FuzzTest {
         return false;
     }
 
-    private static void prepare(DigHouse house) {
+    static void prepare(DigHouse house) {
         for (int i = 0; i < 5; i++) {
             house.context();
             house.find(i, i % 4, i % 2 == 0 ? -1 : 3);
@@ -151,7 +151,7 @@ public final class FuzzTest {
     }
 
     /** Brings a text to a pad, and has it read. */
-    private static String feed(DigHouse house, Random random) {
+    static String feed(DigHouse house, Random random) {
         String text = TEXTS[random.nextInt(TEXTS.length)];
         int which = random.nextInt(6);
         StringBuilder answers = new StringBuilder();
@@ -180,7 +180,7 @@ public final class FuzzTest {
         return answers.toString();
     }
 
-    private static String call(DigHouse house, Method m, Random random) throws Exception {
+    static String call(DigHouse house, Method m, Random random) throws Exception {
         Object[] args = new Object[m.getParameterCount()];
         Class<?>[] types = m.getParameterTypes();
         for (int i = 0; i < args.length; i++) {
@@ -189,7 +189,7 @@ public final class FuzzTest {
         return Arrays.toString(args) + answer(house, m, args);
     }
 
-    private static int number(Random random) {
+    static int number(Random random) {
         int dice = random.nextInt(20);
         if (dice < 12) {
             return random.nextInt(6);
@@ -203,7 +203,7 @@ public final class FuzzTest {
         return LURES[random.nextInt(LURES.length)];
     }
 
-    private static String answer(DigHouse house, Method m, Object[] args) throws Exception {
+    static String answer(DigHouse house, Method m, Object[] args) throws Exception {
         try {
             return String.valueOf(m.invoke(house, args));
         } catch (InvocationTargetException e) {
