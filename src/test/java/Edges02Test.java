@@ -10,6 +10,8 @@ public final class Edges02Test {
         dates();
         sixDates();
         outliers();
+        refusedOutliers();
+        undated();
         solves();
         weights();
         finds();
@@ -216,6 +218,69 @@ public final class Edges02Test {
             all.insert(0, x.wayAnswered(context, year, d));
         }
         return new java.math.BigInteger(all.toString()).toString();
+    }
+
+    /** A refused share leaves the former one as it is. */
+    private static void refusedOutliers() {
+        DigHouse x = Houses.curve(1, 1);
+        x.dated(0, 0);
+        x.outlier(0, 1, 3);
+        Due.argument(() -> x.outlier(0, 2, 11));
+        Due.argument(() -> x.outlier(0, 5, 4));
+        Due.argument(() -> x.outlier(0, -1, 7));
+        Due.argument(() -> x.outlier(0, 0, 0));
+        x.solve();
+        for (int y = 0; y < 12; y++) {
+            Due.compare(String.valueOf(2L * 12 * x.curveWeight(0, y) + x.curveTotal(0)), answered(x, 0, y));
+        }
+    }
+
+    /** Without a date a context stands for none, and lies between none: neither joined nor in a stack. */
+    private static void undated() {
+        DigHouse x = Houses.curve(4, 3);
+        x.layerRelate(0, 1, 3);
+        x.layerRelate(2, 0, 0);
+        x.layerRelate(1, 3, 0);
+        x.dated(1, 0);
+        x.dated(2, 1);
+        Due.is(0, () -> x.solve());
+        Due.is(2, () -> x.wayCount(0));
+        Due.is(1, () -> x.wayCount(1));
+        Due.compare("true", String.valueOf(answeredBoth(x, 2, 4, 1, 3).signum() > 0));
+        Due.compare("0", answeredBoth(x, 2, 3, 1, 4).toString());
+        x.dated(1, -1);
+        x.dated(3, 2);
+        Due.is(0, () -> x.solve());
+        Due.is(1, () -> x.wayCount(1));
+        Due.is(0, () -> x.wayBoth(2, 3, 3, 4, 9));
+        Due.compare("true", String.valueOf(answeredBoth(x, 2, 4, 3, 3).signum() > 0));
+        Due.compare("0", answeredBoth(x, 2, 3, 3, 4).toString());
+        x.dated(0, 0);
+        x.dated(1, 0);
+        Due.is(0, () -> x.solve());
+        Due.is(4, () -> x.wayCount(0));
+        Due.is(3, () -> x.wayCount(1));
+        Due.compare("0", answeredBoth(x, 0, 3, 1, 4).toString());
+        // A stack with nothing but undated ones between the first and the last.
+        DigHouse y = Houses.curve(16, 2);
+        for (int c = 1; c < 16; c++) {
+            y.layerRelate(c - 1, c, 0);
+        }
+        y.dated(0, 0);
+        y.dated(15, 1);
+        Due.is(0, () -> y.solve());
+        Due.is(1, () -> y.wayCount(1));
+        y.dated(7, 1);
+        Due.is(0, () -> y.solve());
+        Due.is(2, () -> y.wayCount(1));
+    }
+
+    private static java.math.BigInteger answeredBoth(DigHouse x, int a, int year, int b, int other) {
+        StringBuilder all = new StringBuilder();
+        for (int d = 0; d < 48; d++) {
+            all.insert(0, x.wayBoth(a, year, b, other, d));
+        }
+        return new java.math.BigInteger(all.toString());
     }
 
     private static void solves() {

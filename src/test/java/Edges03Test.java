@@ -22,6 +22,7 @@ public final class Edges03Test {
         fullOfRows();
         light();
         packs();
+        newBoxes();
         loses();
         presentOfPlaces();
         lends();
@@ -670,6 +671,26 @@ public final class Edges03Test {
         loads();
     }
 
+    /** A box that has not been anywhere yet holds nothing, whatever the hour is at which others were moved. */
+    private static void newBoxes() {
+        for (int hours = 0; hours < 4; hours++) {
+            DigHouse x = Houses.contexts(1);
+            for (int o = 0; o < 3; o++) {
+                x.find(0, 0, -1);
+                x.object(o, 10 + o, 20 + o, 30 + o, 100);
+                x.placeBox(o);
+            }
+            x.place(-1, 1000);
+            for (int h = 0; h < hours; h++) {
+                x.hour(0, 0);
+            }
+            Due.is(0, () -> x.carry(0, 0, 0, 0));
+            Due.is(0, () -> x.pack(0, 1));
+            Due.is(0, () -> x.pack(1, 2));
+            Due.is(-1, () -> x.placeWhere(0, 10));
+        }
+    }
+
     private static void loads() {
         DigHouse x = Houses.contexts(1);
         for (int o = 0; o < 4; o++) {
@@ -886,6 +907,18 @@ public final class Edges03Test {
         x.pass(1);
         x.hour(0, 0);
         Due.is(100, () -> x.treat(0, 0, 0, 0));
+        // It is the object's own loan that matters.
+        DigHouse z = Houses.methods(3, 1, "");
+        Houses.contract(z, "z=1");
+        z.lend(0, 1, 0, 0);
+        z.hour(0, 0);
+        Due.is(600, () -> z.treat(0, 0, 0, 0));
+        Due.is(802, () -> z.treat(1, 0, 0, 0));
+        Due.is(600, () -> z.treat(2, 0, 0, 0));
+        z.place(-1, 1000);
+        Due.is(0, () -> z.carry(0, 0, 0, 0));
+        Due.is(4, () -> z.carry(1, 0, 0, 0));
+        Due.is(0, () -> z.carry(2, 0, 0, 0));
         DigHouse y = Houses.methods(2, 1, "i,u3*2");
         Due.is(503, () -> y.treat(0, 0, 0, 0));
         y.methodStock(3, 1);

@@ -79,7 +79,11 @@ public final class Edges04Test {
         Due.is(1, () -> x.from(0));
         x.hour(0, 0);
         Due.is(3, () -> x.from(0));
+        // What is told of an object's light is nothing to its origin.
+        Due.is(-1, () -> x.spare(0, 7));
+        Due.is(3, () -> x.from(0));
         Due.is(0, () -> x.origin(0, -1));
+        Due.is(7, () -> x.spare(0, 8));
         Due.is(1, () -> x.from(0));
         Due.is(-1, () -> x.origin(0, -1));
     }

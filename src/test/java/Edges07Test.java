@@ -246,6 +246,9 @@ public final class Edges07Test {
         DigHouse x = new DigHouse();
         Due.no(() -> x.curveRow(0, 500, 10));
         Due.yes(() -> x.curveRow(0, 600, 10));
+        Due.argument(() -> x.curveRow(0, 700, 101));
+        Due.argument(() -> x.curveRow(0, 3001, 20));
+        Due.argument(() -> x.curveRow(0, 700, 0));
         Due.no(() -> x.curveRow(11, 700, 10));
         x.curveDate(600, 10);
         Due.is(1, () -> x.curveEdition());
@@ -327,6 +330,10 @@ public final class Edges07Test {
         x.curveRow(0, 500, 10);
         x.curveDate(500, 10);
         x.curveReservoir(100, 0);
+        Due.argument(() -> x.curveReservoir(200, 101));
+        Due.argument(() -> x.curveReservoir(200, -1));
+        Due.argument(() -> x.curveReservoir(1001, 50));
+        Due.argument(() -> x.curveReservoir(-1001, 50));
         x.curveDate(600, 10);
         Due.is(999, () -> x.curveWeight(0, 0));
         Due.is(999, () -> x.curveWeight(1, 0));

@@ -228,6 +228,12 @@ public final class Edges10Test {
         share(x, 20, 7, 3, 2);
         x.ownerShare(2, 1000, 1000);
         share(x, 20, 7, 2, 1);
+        // A refused share leaves the former one as it is.
+        Due.argument(() -> x.ownerShare(0, 3, 2));
+        Due.argument(() -> x.ownerShare(0, 0, 2));
+        Due.argument(() -> x.ownerShare(0, 500, 1001));
+        Due.argument(() -> x.ownerShare(0, -1, -1));
+        share(x, 15, 7, 1, 1000);
         share(x, 0, 100000, 0, 1);
         share(x, 100000, 100000, 0, 1);
         x.ownerRow(1, 0, 20, 20, 0);

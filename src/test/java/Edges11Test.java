@@ -108,6 +108,17 @@ public final class Edges11Test {
         x.ownerTell(2, 31, 26999);
         Due.is(31, () -> x.ownerRights(0, 3, 99999));
         Due.is(-1, () -> x.ownerRights(0, 3, 100000));
+        // What is refused leaves years, maker and end as they were.
+        Due.argument(() -> x.ownerTell(0, 3, 201));
+        Due.argument(() -> x.ownerTell(0, 3, -1));
+        Due.argument(() -> x.ownerTell(2, 31, 100001));
+        Due.argument(() -> x.ownerTell(2, 31, -1));
+        Due.element(() -> x.ownerTell(1, 0, 32));
+        Due.element(() -> x.ownerTell(1, 0, -1));
+        Due.is(31, () -> x.ownerRights(0, 3, 99999));
+        Due.is(-1, () -> x.ownerRights(0, 3, 100000));
+        Due.is(31, () -> x.ownerRights(0, 1, 26999));
+        Due.is(-1, () -> x.ownerRights(0, 1, 27000));
         x.ownerTell(2, 31, 100000);
         Due.is(31, () -> x.ownerRights(0, 0, 100000));
         Due.is(31, () -> x.ownerRights(0, 3, 0));

@@ -180,6 +180,10 @@ public final class Edges13Test {
         writes("!!!(a<1)", "!!!a<1;");
         writes("!(!!!(!a<1))", "!!!!!a<1;");
         writes("a<1|b<2", "(a<1|b<2);");
+        writes("a<1;b<1|c<2", "a<1;(b<1|c<2);");
+        writes("a<1;b<1&c<2", "a<1;(b<1&c<2);");
+        writes("a<1|b<1;c<2;d<1&e<1", "(a<1|b<1);c<2;(d<1&e<1);");
+        writes("a<1|b<1&c<2|d<1", "(a<1|(b<1&c<2)|d<1);");
         writes("a<1&b<2", "(a<1&b<2);");
         writes("a<1|b<2&c<3", "(a<1|(b<2&c<3));");
         writes("(a<1|b<2)&c<3", "((a<1|b<2)&c<3);");
@@ -231,7 +235,9 @@ public final class Edges13Test {
         Due.argument(() -> x.termFails(0, 5, 4));
         Due.argument(() -> x.termFails(0, 2400001, 2400001));
         Due.index(() -> x.termFails(8, 5, 4));
-        Due.is(0, () -> x.termOpen(0, 7, 0));
+        for (int hour : new int[] {0, 4, 5, 7, 2400000}) {
+            Due.is(0, () -> x.termOpen(0, hour, 0));
+        }
     }
 
     /** The value of the last row that is not above the hour; open ahead of the first one. Comparisons at their edges. */
@@ -312,7 +318,7 @@ public final class Edges13Test {
             {"y=0|h=0", "good"}, {"h=0|y=0", "open"}, {"y=1&h=0", "broken"}, {"y=0&h=0", "open"}, {"h=0&y=1", "open"},
             {"y=1|y=0&h=0", "open"}, {"y=1&h=0|y=0", "good"}, {"!(y=0|h=0)", "broken"}, {"!(y=1&h=0)", "good"}, {"!h=0", "open"},
             {"(y=0|h=0)&y=0|h=0", "good"}, {"(y=1&h=0)|(y=1|y=0)", "good"}, {"!!y=1|h=0", "open"}, {"!!!y=1|h=0", "good"},
-            {"(y=0|(h=0|(h=0&(h=0|(h=0)))))", "good"}, {"y=1&(h=0|(h=0&(h=0|(h=0|(h=0)))))", "broken"}, {"(((((h=0)))))", "open"},
+            {"(y=0|(h=0|(h=0&(h=0|(h=0)))))", "good"}, {"y=1&(h=0|(h=0&(h=0|(h=0|(h=0)))))", "broken"}, {"(((((h=0)))))", "open"}, {"(((((y=0)))))", "good"}, {"(((((y=1)))))", "broken"}, {"!(!(!(!(!(y=0)))))", "broken"},
             {"y=1&!(h=0|y=0)|y=0", "good"}, {"y=0&(y=1|y=0)&y=1", "broken"},
         };
         for (String[] row : due) {

@@ -224,6 +224,10 @@ public final class Edges14Test {
             Due.is(2000000, () -> x.roomBook(0, -1, 0));
             Due.is(1000000, () -> x.roomBook(0, -1, 1));
         }
+        // Refused, neither volume nor share change.
+        Due.argument(() -> x.roomSize(0, 7, 1001));
+        Due.argument(() -> x.roomSize(0, 1001, 7));
+        Due.is(666666, () -> x.roomDegrees(0));
         // A share of 1000: all of the air is changed at once.
         x.roomSize(0, 100, 1000);
         x.hour(-60000, 60000);
@@ -403,6 +407,15 @@ public final class Edges14Test {
         Due.no(() -> y.roomOn(0, 0));
         y.hour(0, 0);
         Due.is(100000, () -> y.roomBook(0, 4, 0));
+        // A refused one leaves the machine as it is, and on.
+        Due.argument(() -> y.roomMachine(0, 0, 60000, 59999, 5));
+        Due.argument(() -> y.roomMachine(0, 0, -60001, 0, 5));
+        Due.argument(() -> y.roomMachine(0, 0, 0, 60001, 5));
+        Due.argument(() -> y.roomMachine(0, 0, 0, 0, 100001));
+        Due.argument(() -> y.roomMachine(0, 0, 0, 0, -1));
+        Due.yes(() -> y.roomOn(0, 0));
+        y.hour(0, 0);
+        Due.is(200000, () -> y.roomBook(0, 4, 0));
         // A damper that goes on with damp told as below 0 never does.
         y.roomMachine(0, 2, -60000, -1, 100000);
         y.hour(0, 0);

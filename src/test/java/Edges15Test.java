@@ -275,6 +275,9 @@ public final class Edges15Test {
         Due.is(100000, () -> x.roomCorrected(0, 0));
         Due.is(-200000, () -> x.roomCorrected(0, 1));
         Due.is(-100000, () -> x.roomCorrected(0, 2));
+        Due.argument(() -> x.roomSensor(0, 0, 100001));
+        Due.argument(() -> x.roomSensor(0, 0, -100001));
+        Due.is(100000, () -> x.roomCorrected(0, 0));
         x.roomSensor(0, 0, 0);
         Due.is(0, () -> x.roomCorrected(0, 0));
         Due.is(-200000, () -> x.roomCorrected(1, 0));

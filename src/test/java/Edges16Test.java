@@ -93,6 +93,9 @@ public final class Edges16Test {
         x.roomCheck(0, 2, 100000);
         Due.is(1, () -> x.roomCount(0, 4));
         Due.is(100000, () -> x.roomCorrected(0, 2));
+        Due.argument(() -> x.roomCheck(0, 2, 100001));
+        Due.argument(() -> x.roomCheck(0, 2, MIN));
+        Due.is(100000, () -> x.roomCorrected(0, 2));
         x.roomCheck(0, 2, -100000);
         Due.is(1, () -> x.roomCount(0, 4));
         Due.is(-100000, () -> x.roomCorrected(0, 2));

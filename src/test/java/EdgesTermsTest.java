@@ -12,6 +12,7 @@ public final class EdgesTermsTest {
         rowsOrNot();
         mostRows();
         reopenedNumbers();
+        reopenedOrders();
         theDay();
         theStops();
         fullOfAll();
@@ -102,6 +103,12 @@ public final class EdgesTermsTest {
         x.ownerSettle(0, 0);
         x.lend(0, 0, 0, 0);
         x.lend(0, 0, 1, 1);
+        x.look(0, 0, 0, 0);
+        x.ticketRead(0, 0, 0);
+        x.ticketRead(1, 0, 0);
+        x.ticketRead(2, 0, 0);
+        x.ticketJoin();
+        x.rightExport(0, 0);
         return x;
     }
 
@@ -163,6 +170,32 @@ public final class EdgesTermsTest {
         Due.is(0, () -> x.roomAlarm(0, 0, 0));
         x.pass(1);
         Due.is(0, () -> x.look(0, 1, 1, 0));
+    }
+
+    /** Numbers of a row are told again in their order. */
+    private static void reopenedOrders() {
+        DigHouse x = Houses.objects(2);
+        x.claimNew();
+        x.origin(1, 0);
+        x.rightPerson(0);
+        x.rightPerson(0);
+        x.rightPerson(128);
+        Houses.rule(x, "s");
+        x.rightEmbargo(0, 9);
+        x.rightEmbargo(1, 8);
+        Due.is(2, () -> x.rightExport(2, 0));
+        x.curveUnit('1' | ':' << 8 | '4' << 16 | '0' << 24, '0' | '+' << 8 | '1' << 16 | '0' << 24);
+        x.save();
+        x.cut(0);
+        x.reopen();
+        Due.is(-1, () -> x.origin(0, -1));
+        Due.is(0, () -> x.origin(1, -1));
+        Due.is(1, () -> x.rightExported(1));
+        Due.is(9, () -> x.rightEmbargo(0, -1));
+        Due.is(8, () -> x.rightEmbargo(1, -1));
+        Due.is(1, () -> x.curveRead());
+        x.curveDate(400, 10);
+        Due.is(999, () -> x.curveWeight(0, 1));
     }
 
     private static int room(DigHouse x) {
