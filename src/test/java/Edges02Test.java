@@ -308,6 +308,9 @@ public final class Edges02Test {
         x.member(1, true);
         Due.is(2, () -> x.solve());
         Due.state(() -> x.wayTotal(0));
+        for (int i = 0; i < 90; i++) {
+            Due.is(2, () -> x.solve());
+        }
         x.member(0, false);
         Due.is(0, () -> x.solve());
         x.layerUndo(0);
@@ -315,6 +318,11 @@ public final class Edges02Test {
         Due.is(0, () -> x.solve());
         Due.is(2, () -> x.wayCount(2));
         Due.is(0, () -> x.wayCount(1));
+        for (int i = 94; i < 100; i++) {
+            Due.is(0, () -> x.solve());
+        }
+        Due.state(() -> x.solve());
+        Due.is(2, () -> x.wayCount(2));
     }
 
     /** A weight of 999 counts as it is, one of 1000 and more as 999. */

@@ -524,6 +524,25 @@ public final class Edges03Test {
         x.hour(0, 0);
         Due.is(0, () -> x.carry(1, 2, 0, 0));
         Due.is(0, () -> x.carry(0, 3, 0, 0));
+        // A quiet time ahead of what would be too heavy, for a box likewise.
+        DigHouse y = Houses.contexts(1);
+        for (int o = 0; o < 2; o++) {
+            y.find(0, 0, -1);
+            y.object(o, 1 + o, 1 + o, 1 + o, 100);
+        }
+        y.place(-1, 99);
+        y.place(-1, 199);
+        y.placeBox(1);
+        Due.is(2, () -> y.carry(0, 0, 0, 0));
+        Due.is(0, () -> y.carry(1, 1, 0, 0));
+        Due.is(5, () -> y.pack(0, 1));
+        y.placeQuiet(0, 0, 0);
+        y.placeQuiet(1, 0, 0);
+        Due.is(1, () -> y.carry(0, 0, 0, 0));
+        Due.is(4, () -> y.pack(0, 1));
+        y.hour(0, 0);
+        Due.is(2, () -> y.carry(0, 0, 0, 0));
+        Due.is(5, () -> y.pack(0, 1));
     }
 
     /** Keys: none, one of person a, or one of each of two persons. */

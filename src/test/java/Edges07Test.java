@@ -149,6 +149,12 @@ public final class Edges07Test {
         Due.index(() -> x.sheetCommand(-2));
         Due.index(() -> x.sheetAt(16, 0));
         Due.index(() -> x.sheetCrossings(-1));
+        // Sheets that were not drawn count among the forty.
+        for (int d = 2; d < 40; d++) {
+            Due.is(-3, () -> x.draw(12));
+        }
+        Due.state(() -> x.draw(12));
+        Due.is(16, () -> x.sheetCount(0));
     }
 
     /** The drawing: groups by rows and places, each with a 1 ahead, then links with a 2 ahead. */
